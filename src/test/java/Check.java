@@ -1,0 +1,43 @@
+/** What the tests share: answers compared with those that are due, and texts fed. */
+final class Check {
+    private int wrong;
+
+    void due(String call, long got, long want) {
+        if (got != want) {
+            wrong++;
+            System.out.println(call + " answered " + got + ", due is " + want);
+        }
+    }
+
+    /** Feeds a text and reads it: what level() answers. */
+    static int tell(MillTalk x, String text) {
+        for (int i = 0; i < text.length(); i++) {
+            x.feed(text.charAt(i));
+        }
+        return x.level();
+    }
+
+    static MillTalk told(String text) {
+        MillTalk x = new MillTalk();
+        int answer = tell(x, text);
+        if (answer < 0) {
+            throw new IllegalStateException("the test's own text has a fault: " + text + " " + answer);
+        }
+        return x;
+    }
+
+    /** A row of ints with these items. */
+    static void fill(MillTalk x, int row, int... items) {
+        x.row(row, 2, items.length);
+        for (int i = 0; i < items.length; i++) {
+            x.set(row, i, items[i]);
+        }
+    }
+
+    void end() {
+        System.out.println(wrong == 0 ? "all answers are as due" : wrong + " answers are not as due");
+        if (wrong != 0) {
+            System.exit(1);
+        }
+    }
+}
