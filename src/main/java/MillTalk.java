@@ -349,12 +349,9 @@ public final class MillTalk {
         if (!now.hasSound(sound) || which < 0 || which > 1 || !isHeard(row, n)) {
             return BAD;
         }
-        if (!now.isLoose(sound)) {
-            return STATE;
-        }
-        int finding = rows.findingOf(row, i, n);
-        if (finding != 0) {
-            return found(finding);
+        int refusal = refusalToHear(sound, row, i, n);
+        if (refusal != 0) {
+            return refusal;
         }
         return foundNothing(which == 0 ? kindsThatFit(sound, row, i, n) : startsThatFit(sound, row, i, n));
     }
@@ -363,12 +360,9 @@ public final class MillTalk {
         if (wind != -1 && !now.hasWind(wind) || !now.hasSound(sound) || !isHeard(row, n)) {
             return BAD;
         }
-        if (!now.isLoose(sound)) {
-            return STATE;
-        }
-        int finding = rows.findingOf(row, i, n);
-        if (finding != 0) {
-            return found(finding);
+        int refusal = refusalToHear(sound, row, i, n);
+        if (refusal != 0) {
+            return refusal;
         }
         return foundNothing(wind == -1 ? reachesThatFit(sound, row, i, n) : windsThatFit(wind, sound, row, i, n));
     }
@@ -491,6 +485,14 @@ public final class MillTalk {
 
     private static boolean isHeard(int row, int n) {
         return Rows.isRow(row) && n >= 1 && n <= 12;
+    }
+
+    private int refusalToHear(int sound, int row, int i, int n) {
+        if (!now.isLoose(sound)) {
+            return STATE;
+        }
+        int finding = rows.findingOf(row, i, n);
+        return finding == 0 ? 0 : found(finding);
     }
 
     private static boolean isOfKind(int kind, int asked) {

@@ -272,6 +272,7 @@ public final class ForetoldTest {
         check.due("meal of these hours alone", x.drawn(1, 1, 0), 5);
         check.due("n 61", x.drawn(61, 1, 0), BAD);
         check.due("n -1", x.drawn(-1, 1, 0), BAD);
+        check.due("n 60, the last seed", x.drawn(60, 999999, 1) >= 0 ? 1 : 0, 1);
         check.due("seed 0", x.drawn(1, 0, 0), BAD);
         check.due("seed 1000000", x.drawn(1, 1000000, 0), BAD);
         check.due("what 2", x.drawn(1, 1, 2), BAD);
