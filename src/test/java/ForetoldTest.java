@@ -108,7 +108,7 @@ public final class ForetoldTest {
         firstOfSeveral();
     }
 
-    /** Down is needed in the third of three hours alone: of the rows with one turn 001 is no such, 000 is. */
+    /** Down is needed in the third of three hours alone: 000, 100 and 110 do with one turn. */
     private static void firstOfSeveral() {
         MillTalk x = Check.told("m15,5,1;w3;v1,7;");
         check.due("most", x.caps(3, -1), 7);
