@@ -9,6 +9,13 @@ final class Check {
         }
     }
 
+    void same(String what, String got, String want) {
+        if (!got.equals(want)) {
+            wrong++;
+            System.out.println(what + ": there is\n  " + got + "\ndue is\n  " + want);
+        }
+    }
+
     /** Feeds a text and reads it: what level() answers. */
     static int tell(MillTalk x, String text) {
         for (int i = 0; i < text.length(); i++) {
@@ -32,6 +39,20 @@ final class Check {
         for (int i = 0; i < items.length; i++) {
             x.set(row, i, items[i]);
         }
+    }
+
+    /**
+     * The items of a row, each as the cell that it names, -1 for another number: no call but who() and gusts()
+     * reads an item, so the level becomes one where a sea rests in a calm.
+     */
+    static String items(MillTalk x, int row, int n) {
+        tell(x, "m15,0,0;w2;s5,1;");
+        StringBuilder items = new StringBuilder();
+        for (int i = 0; i < n; i++) {
+            int start = x.who(0, 1, row, i, 1);
+            items.append(start <= 0 ? -1 : Integer.numberOfTrailingZeros(start)).append(' ');
+        }
+        return items.toString().trim();
     }
 
     void end() {
