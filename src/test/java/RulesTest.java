@@ -27,6 +27,10 @@ public final class RulesTest {
         imports(code);
         face();
         noPrivateNameOfThePublicOnes();
+        fields(MillTalk.class);
+        for (Class<?> inside : MillTalk.class.getDeclaredClasses()) {
+            fields(inside);
+        }
         lengths(code);
         check.end();
     }
@@ -90,6 +94,20 @@ public final class RulesTest {
                 check.due(c + " " + m.getName() + " parameters", m.getParameterCount() <= 7 ? 1 : 0, 1);
             }
         }
+    }
+
+    /** What is static is final, a number or a row of numbers; of the others a class has some twenty. */
+    private static void fields(Class<?> c) {
+        int own = 0;
+        for (Field f : c.getDeclaredFields()) {
+            if (Modifier.isStatic(f.getModifiers())) {
+                check.due(f + " is final", Modifier.isFinal(f.getModifiers()) ? 1 : 0, 1);
+                check.due(f + " is a constant", Set.of(int.class, int[].class).contains(f.getType()) ? 1 : 0, 1);
+            } else {
+                own++;
+            }
+        }
+        check.due(c + " fields", own <= 20 ? 1 : 0, 1);
     }
 
     /** A method begins with a line that ends in ") {" at a depth of one or two, and ends where its brace does. */
