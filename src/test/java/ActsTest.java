@@ -40,6 +40,7 @@ public final class ActsTest {
         restoredAsItWas();
         noImageWasKept();
         restoredNothingCanBeUndone();
+        restoredTheRestStays();
         counts();
         noSuchCount();
         the512thCall();
@@ -564,6 +565,30 @@ public final class ActsTest {
         x.cap();
         check.due("from then on", x.undo(), 0);
         check.due("as it was restored", x.stand(3), 1);
+    }
+
+    /** "The LEVEL is as an IMAGE kept it": ROWS, the tape, THE TRACE, the FAULT, status(), IMAGES are no part of it. */
+    private static void restoredTheRestStays() {
+        MillTalk x = level();
+        x.image(0);
+        x.cap();
+        x.image(1);
+        Check.fill(x, 2, 7, 8);
+        Check.tell(x, "m4");
+        x.feed('m');
+        x.ask(1, 0);
+        x.as(1, 1);
+        check.due("restore", x.restore(0), 1);
+        check.due("a row", x.count(0), 1);
+        check.due("the tape", x.count(7), 1);
+        check.due("the trace", x.trace(0), 13);
+        check.due("the fault", x.fault(), 2);
+        check.due("status: a KIND", x.status(), 3);
+        check.due("the other image", x.restore(1), 1);
+        check.due("its cap", x.stand(3), 0);
+        check.due("the tape goes on", x.feed('5'), 2);
+        x.level();
+        check.same("the row", Check.items(x, 2, 2), "7 8");
     }
 
     /** "How many: 0 ROWS, 1 SOUNDS, 2 WINDS, 3 HOUR, 4 MEAL, 5 .. LOOSE, 6 ACTS .., 7 bytes on the tape." */

@@ -57,6 +57,7 @@ public final class ForetoldTest {
         aCalmCannotBeTurned();
         turnsFor1And20();
         turnsOfNoSuchThing();
+        foretoldBeyondTheLastHour();
         check.end();
     }
 
@@ -648,5 +649,43 @@ public final class ForetoldTest {
         check.due("no level", none.byTurns(0, 1), STATE);
         check.due("no level, n -1", none.byTurns(-1, 1), STATE);
         check.due("no level, m 21", none.byTurns(0, 21), STATE);
+    }
+
+    // ---- all of them
+
+    /** HOURS end at 999 for what is done; what is foretold goes on. From HOUR 999 on the winds are 3, 2 by turns. */
+    private static void foretoldBeyondTheLastHour() {
+        MillTalk x = Check.told("m15,14,0;w2;w2;v4,5;s14,20;");
+        for (int i = 0; i < 41; i++) {
+            x.hours(24);
+        }
+        x.hours(15);
+        x.wind(1, 3);
+        check.due("the test's own hour", x.count(3), 999);
+        check.due("gust", x.gust(59), 2);
+        check.due("the last gust", x.gust(60), 3);
+        check.due("cell", x.ahead(0, 18, 0), 13);
+        check.due("ground", x.ahead(0, 19, 1), 1);
+        check.due("when", x.when(0, 1), 19);
+        check.due("the sea", x.meal(1), 20);
+        check.due("both", x.meal(19), 25);
+        check.due("caps", x.caps(8, -1), 20);
+        check.due("had", x.had(2, 1), 0);
+        check.due("had never", x.had(1, 8), NONE);
+        check.due("site", x.site(30, 1), 25);
+        check.due("turns", x.byTurns(0, 19), 25);
+        check.due("the quarter turns the wind", x.byTurns(2, 20), 20);
+        Check.fill(x, 0, 5, 5, 6);
+        check.due("kinds", x.who(0, 0, 0, 0, 3), 1 << 1);
+        check.due("gusts", x.gusts(1, 0, 0, 0, 3), 1 << 3);
+        check.due("gusts of the calm", x.gusts(0, 0, 0, 0, 3), 1 << 2);
+        check.due("calm, above", x.calm(0, 19, 5, 0), 1);
+        check.due("calm, below", x.calm(0, 19, 5, 1), 2);
+        MillTalk y = Check.told("m15,14,0;w2;w3;v4,5;s14,20;");
+        y.hours(1);
+        for (int seed = 1; seed <= 5; seed++) {
+            check.due("drawn as in hour 1", x.drawn(60, seed, 0), y.drawn(60, seed, 0));
+        }
+        check.due("the hour stays", x.count(3), 999);
     }
 }

@@ -2,8 +2,8 @@ import java.util.function.Supplier;
 import java.util.function.ToLongFunction;
 
 /**
- * "What is refused, or found, changes nothing but status()", and "FORETOLD (nothing changes)": of two objects with
- * the same past one gets a call more, and then all that can be seen of both is compared.
+ * "What is refused, or found, changes nothing but status()", "FORETOLD (nothing changes)", and "each can be undone": of
+ * two objects with the same past one gets a call more, and then all that can be seen of both is compared.
  */
 public final class RefusalsTest {
     private static final int BAD = MillTalk.BAD, STATE = MillTalk.STATE, FULL = MillTalk.FULL, NONE = MillTalk.NONE;
@@ -24,6 +24,7 @@ public final class RefusalsTest {
         whatIsSeenChangesNothing();
         whatIsForetoldChangesNothing();
         whatIsHeardChangesStatusAlone();
+        undoneAllIsAsItWas();
         check.end();
     }
 
@@ -283,5 +284,22 @@ public final class RefusalsTest {
         leavesAll(RefusalsTest::used, "gusts", x -> x.gusts(1, 2, 0, 1, 1), 8, 0);
         leavesAll(RefusalsTest::used, "reaches", x -> x.gusts(-1, 2, 0, 1, 1), 0, 0);
         leavesAll(RefusalsTest::used, "as", x -> x.as(2, 4), 2, 0);
+    }
+
+    private static void undone(String act, ToLongFunction<MillTalk> made, long due) {
+        leavesAll(RefusalsTest::used, act + ", undone", x -> made.applyAsLong(x) == due ? x.undo() : NONE, 4, KIND);
+    }
+
+    /** "each can be undone": then all is as ahead of it, the ACTS before it, too. */
+    private static void undoneAllIsAsItWas() {
+        undone("an hour", x -> x.hours(1), 4);
+        undone("a cap", x -> x.cap(), 1);
+        undone("a wind", x -> x.wind(1, 3), 0);
+        undone("a wind that is the same", x -> x.wind(1, 0), 0);
+        undone("loose again, that was ground", x -> x.loose(0, 8, 20), 13);
+        undone("loose again, that was lost", x -> x.loose(1, 0, 1), 14);
+        undone("meal", x -> x.sell(4), 0);
+        leavesAll(RefusalsTest::used, "three hours, undone", x -> x.hours(3) + x.undo() + x.undo() + x.undo(),
+            4 + 6 + 5 + 4, KIND);
     }
 }

@@ -36,6 +36,7 @@ public final class TextTest {
         aFaultLeavesAll();
         theLatestFault();
         aLevelStandsInPlaceOfTheOneBefore();
+        aLevelLeavesTheRest();
         sortsOfSounds();
         check.end();
     }
@@ -415,6 +416,22 @@ public final class TextTest {
         check.due("no second sound any more", x.sound(1, 0), MillTalk.BAD);
         check.due("no second wind any more", x.wind(1, 0), MillTalk.BAD);
         check.due("one loose", x.count(5), 1);
+    }
+
+    /** "A LEVEL that is read stands in place of the one before": of nothing else. */
+    private static void aLevelLeavesTheRest() {
+        MillTalk x = Check.told(TEXT);
+        x.image(0);
+        Check.fill(x, 2, 7, 8);
+        x.ask(1, 0);
+        x.as(1, 1);
+        check.due("another", Check.tell(x, "m5,0,0;w2;s0,1;"), 1);
+        check.due("the trace", x.trace(0), 13);
+        check.due("status: a KIND", x.status(), 3);
+        check.due("a row", x.count(0), 1);
+        check.due("the image", x.restore(0), 1);
+        check.due("its cells", x.stand(0), 11);
+        check.same("the row", Check.items(x, 2, 2), "7 8");
     }
 
     /** "SORT: v a voice, b a band, h a hare, d some Dutch, s the sea" */
